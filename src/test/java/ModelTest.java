@@ -32,13 +32,63 @@ public final class ModelTest {
     }
 
     private void go(int seed) {
-        int made = 0;
+        int made = seed % 3 == 1 ? layers() : seed % 3 == 2 ? rings() : 0;
         while (made < CALLS && !isWrong) {
             made += makeCall(CALLS - made);
         }
         if (isWrong) {
             due.fail("seed " + seed + ", latest calls: " + calls.subList(Math.max(0, calls.size() - 25), calls.size()));
         }
+    }
+
+    /** A few switches and gates whose wires come from lanterns hung up before, so that tables are asked. */
+    private int layers() {
+        int switches = 1 + random.nextInt(5);
+        int count = switches + 1 + random.nextInt(16 - switches);
+        int made = 0;
+        for (int k = 0; k < count; k++) {
+            int kind = k < switches ? 0 : 1 + random.nextInt(6);
+            made += hangOne(kind, 1 + random.nextInt(4));
+            for (int place = 0; place < 3 && kind != 0; place++) {
+                made += wireOne(k, place, random.nextInt(k));
+            }
+        }
+        return made;
+    }
+
+    /** Gates in rings, which go on for long. */
+    private int rings() {
+        int count = 4 + random.nextInt(13);
+        int made = 0;
+        for (int k = 0; k < count; k++) {
+            int[] kinds = {0, 1, 1, 4, 4, 6, 6, 6, 5, 3};
+            made += hangOne(kinds[random.nextInt(k == 0 ? 1 : kinds.length)], 1 + random.nextInt(4));
+        }
+        int start = 1;
+        while (start < count) {
+            int end = Math.min(count, start + 1 + random.nextInt(8));
+            for (int k = start; k < end; k++) {
+                made += wireOne(k, 0, k + 1 < end ? k + 1 : start);
+            }
+            start = end;
+        }
+        for (int k = 1; k < count; k++) {
+            if (random.nextInt(6) == 0) {
+                made += wireOne(k, 1, random.nextInt(count));
+            }
+        }
+        return made;
+    }
+
+    private int hangOne(int kind, int wick) {
+        same("hang(" + kind + ", " + wick + ")", x.hang(kind, wick), plain.hang(kind, wick));
+        return 1;
+    }
+
+    private int wireOne(int lantern, int place, int from) {
+        same("wire(" + lantern + ", " + place + ", " + from + ")", x.wire(lantern, place, from),
+            plain.wire(lantern, place, from));
+        return 1;
     }
 
     private void same(String call, double got, double want) {
@@ -81,15 +131,9 @@ public final class ModelTest {
 
     private void change(int choice) {
         if (choice < 10) {
-            int kind = kind();
-            int wick = random.nextInt(40) == 0 ? upTo(6) : 1 + random.nextInt(4);
-            same("hang(" + kind + ", " + wick + ")", x.hang(kind, wick), plain.hang(kind, wick));
+            hangOne(kind(), random.nextInt(40) == 0 ? upTo(6) : 1 + random.nextInt(4));
         } else if (choice < 32) {
-            int lantern = lantern();
-            int place = upTo(2);
-            int from = lantern();
-            same("wire(" + lantern + ", " + place + ", " + from + ")", x.wire(lantern, place, from),
-                plain.wire(lantern, place, from));
+            wireOne(lantern(), upTo(2), lantern());
         } else if (choice < 36) {
             int lantern = lantern();
             int place = upTo(2);
