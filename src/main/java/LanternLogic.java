@@ -311,10 +311,8 @@ public final class LanternLogic {
         if (kind < SWITCH || kind > ALIKE || wick < 1 || wick > MOST_WICK) {
             return BAD;
         }
-        if (now.count() >= MOST_LANTERNS) {
-            return refuse(NO_ROOM, MOST_LANTERNS);
-        }
-        return now.add(kind, wick);
+        int lantern = now.add(kind, wick);
+        return lantern == NONE ? refuse(NO_ROOM, MOST_LANTERNS) : lantern;
     }
 
     private int putWire(int lantern, int place, int from) {
@@ -593,10 +591,11 @@ public final class LanternLogic {
             return isThere ? sources[lantern * PLACES + place] : NO_WIRE;
         }
 
+        /** The number of the new lantern; NONE if there is no room for one. */
         int add(int kind, int wick) {
             int lantern = count;
             if (lantern < 0 || lantern >= MOST_LANTERNS) {
-                return FULL;
+                return NONE;
             }
             kinds[lantern] = kind;
             wicks[lantern] = wick;

@@ -287,6 +287,15 @@ public final class AccountsTest {
         due.is("restore(), it stays", x.restore(), 4);
         due.isText("state", Help.state(x), saved);
         due.is("tick(9) as it would have been", x.tick(9), 2);
+        LanternLogic y = Help.hung("01 54 12");
+        saved = Help.state(y);
+        y.save();
+        y.undo();
+        y.undo();
+        y.hang(0, 3);
+        y.hang(3, 1);
+        due.is("restore() over other lanterns of the same numbers", y.restore(), 3);
+        due.isText("state", Help.state(y), saved);
     }
 
     private static void restoreForgets() {

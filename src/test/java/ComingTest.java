@@ -120,6 +120,11 @@ public final class ComingTest {
         both("252 behind 4 ticks", edge, 252);
         edge.tick(4);
         both("252 from now on", edge, 252);
+        LanternLogic counter = LongRuns.counter();
+        for (int i = 0; i < 5; i++) {
+            counter.tick(99);
+            both("256 from now on", counter, 256);
+        }
     }
 
     private static void flickers() {
@@ -236,6 +241,13 @@ public final class ComingTest {
         twice.wire(2, 1, 0);
         twice.wire(3, 0, 2);
         tables("always", twice, 3, 0b11);
+        LanternLogic upward = Help.hung("61 41 14 61 01 01");
+        upward.wire(0, 0, 1);
+        upward.wire(1, 0, 2);
+        upward.wire(1, 1, 4);
+        upward.wire(2, 0, 3);
+        upward.wire(3, 0, 5);
+        tables("lanterns that come behind their gates", upward, 0, 0b1001);
         LanternLogic bare = Help.hung("11 14 61");
         bare.wire(0, 0, 1);
         bare.wire(2, 0, 0);

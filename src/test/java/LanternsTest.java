@@ -205,6 +205,11 @@ public final class LanternsTest {
         due.is("loops(false)", x.loops(false), Help.REFUSED);
         due.isText("reasons", Help.reasons(x), "9:3 12:2");
         x.cut(4, 0);
+        LanternLogic y = Help.hung("31 31");
+        y.wire(0, 0, 1);
+        y.wire(1, 0, 0);
+        due.is("loops(false)", y.loops(false), Help.REFUSED);
+        due.isText("reasons", Help.reasons(y), "9:0 12:2");
         due.is("loops(false)", x.loops(false), 1);
         due.is("wire(4, 0, 3)", x.wire(4, 0, 3), Help.REFUSED);
         due.isText("reasons", Help.reasons(x), "8:3 11:2");
@@ -335,6 +340,11 @@ public final class LanternsTest {
             }
         }
         due.is("lanternOf(3, 0)", x.lanternOf(3, 0), Help.NONE);
+        LanternLogic y = Help.hung("31 01");
+        y.wire(0, 0, 1);
+        y.wire(0, 2, 0);
+        due.is("lanternOf(0, 4)", y.lanternOf(0, 4), 1);
+        due.is("lanternOf(1, 4)", y.lanternOf(1, 4), 1);
     }
 
     private static void wireOf() {

@@ -33,6 +33,23 @@ final class LongRuns {
         return x;
     }
 
+    /** One flash in 2 ticks, from which each pair of gates makes one in twice as many, and so on up to 256. */
+    static LanternLogic counter() {
+        LanternLogic x = new LanternLogic();
+        int flash = x.hang(1, 1);
+        x.wire(flash, 0, flash);
+        for (int ticks = 4; ticks <= 256; ticks *= 2) {
+            int turned = x.hang(4, 1);
+            x.wire(turned, 0, turned);
+            x.wire(turned, 1, flash);
+            int both = x.hang(2, 1);
+            x.wire(both, 0, turned);
+            x.wire(both, 1, flash);
+            flash = both;
+        }
+        return x;
+    }
+
     /** Rings that repeat after 252 ticks, and a row of gates that is settled behind 5. */
     static LanternLogic edge() {
         LanternLogic x = rings(18, 14);

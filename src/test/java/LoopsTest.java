@@ -115,5 +115,12 @@ public final class LoopsTest {
         both("16 gates in a row, with three wires between two", x, 15, 4);
         due.is("account(10)", x.account(10), 64);
         due.is("account(3)", x.account(3), 45);
+        for (int place = 0; place < 3; place++) {
+            x.wire(15, place, place);
+        }
+        both("16 gates in loops", x, 0, Help.NOTHING);
+        both("16 gates in loops", x, 9, Help.NOTHING);
+        due.is("looped()", x.looped(), 65535);
+        due.is("account(10)", x.account(10), 0);
     }
 }
