@@ -648,7 +648,7 @@ public final class LanternLogic {
         }
 
         boolean isFinding(int lantern, int glow) {
-            if (!isHung(lantern)) {
+            if (lantern < 0 || lantern >= MOST_LANTERNS) {
                 return false;
             }
             int wired = 0;
@@ -1227,12 +1227,8 @@ public final class LanternLogic {
             return true;
         }
 
-        private boolean hasMore() {
-            return at >= 0 && at < length && at < TEXT_ROOM;
-        }
-
         private boolean isRead(char due) {
-            if (!hasMore() || signs[at] != due) {
+            if (at < 0 || at >= length || at >= TEXT_ROOM || signs[at] != due) {
                 return false;
             }
             at++;
@@ -1249,7 +1245,7 @@ public final class LanternLogic {
         }
 
         private boolean isDigitRead() {
-            if (!hasMore() || signs[at] < '0' || signs[at] > '9') {
+            if (at < 0 || at >= length || at >= TEXT_ROOM || signs[at] < '0' || signs[at] > '9') {
                 return false;
             }
             number = signs[at] - '0';
