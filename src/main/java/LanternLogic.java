@@ -701,9 +701,12 @@ public final class LanternLogic {
 
         /** The lanterns from which wires lead to this one. */
         int sourcesOf(int lantern) {
+            if (lantern < 0 || lantern >= MOST_LANTERNS) {
+                return 0;
+            }
             int found = 0;
             for (int place = 0; place < PLACES; place++) {
-                int from = sourceOf(lantern, place);
+                int from = sources[lantern * PLACES + place];
                 found |= from == NO_WIRE ? 0 : 1 << from;
             }
             return found;
