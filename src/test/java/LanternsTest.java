@@ -55,8 +55,7 @@ public final class LanternsTest {
         due.isText("reasons", Help.reasons(x), "");
         for (int k = 0; k < 16; k++) {
             due.is("hang", x.hang(k % 7, k % 4 + 1), k);
-            due.isText("a new lantern", Help.state(x).substring(Help.state(x).lastIndexOf('|')),
-                "|" + k % 7 + " " + (k % 4 + 1) + " 0 0 0 0 0 0 -15 -15 -15 ");
+            due.isText("a new lantern", Help.lantern(x, k), k % 7 + " " + (k % 4 + 1) + " 0 0 0 0 0 0 -15 -15 -15 ");
         }
         due.is("hang(0, 1)", x.hang(0, 1), Help.REFUSED);
         due.isText("reasons", Help.reasons(x), "1:16");

@@ -161,34 +161,35 @@ public final class TextsTest {
 
     private static void runRefused() {
         due.part("promise 22, reasons");
+        refused(Help.hung("01 31 11 41"), "hang 7*1", "10:0 13:-12");
+        refused(Help.hung("01 31 11 41"), "tick 1;hang 1*0", "10:1 13:-12");
+        refused(Help.hung("01 31 11 41"), "hang 1*5", "10:0 13:-12");
+        refused(Help.hung("01 31 11 41"), "wire 4.0<0", "10:0 13:-11");
+        refused(Help.hung("01 31 11 41"), "wire 1.0<4", "10:0 13:-11");
+        refused(Help.hung("01 31 11 41"), "wire 1.3<0", "10:0 13:-12");
+        refused(Help.hung("01 31 11 41"), "wire 99.9<99", "10:0 13:-11");
+        refused(Help.hung("01 31 11 41"), "wire 0.0<1", "10:0 2:0");
+        refused(Help.hung("01 31 11 41"), "set 0+;wire 2.1<1", "10:1 3:1");
+        refused(Help.hung("01 31 11 41"), "wire 1.0<0;wire 1.0<0", "10:1 4:0");
+        refused(Help.hung("01 31 11 41"), "cut 4.0", "10:0 13:-11");
+        refused(Help.hung("01 31 11 41"), "cut 1.3", "10:0 13:-12");
+        refused(Help.hung("01 31 11 41"), "cut 3.2", "10:0 3:2");
+        refused(Help.hung("01 31 11 41"), "cut 3.1", "10:0 5:1");
+        refused(Help.hung("01 31 11 41"), "set 4+", "10:0 13:-11");
+        refused(Help.hung("01 31 11 41"), "set 3+", "10:0 6:4");
+        refused(Help.hung("01 31 11 41"), "set 0-", "10:0 7:0");
+        refused(Help.hung("01 31 11 41"), "set 0+;set 0+", "10:1 7:0");
+        refused(Help.hung("01 31 11 41"), "tick 0", "10:0 13:-12");
+        refused(Help.hung("01 31 11 41"), "tick 00", "10:0 13:-12");
         LanternLogic x = Help.hung("01 31 11 41");
-        refused(x, "hang 7*1", "10:0 13:-12");
-        refused(x, "tick 1;hang 1*0", "10:1 13:-12");
-        refused(x, "hang 1*5", "10:0 13:-12");
-        refused(x, "wire 4.0<0", "10:0 13:-11");
-        refused(x, "wire 1.0<4", "10:0 13:-11");
-        refused(x, "wire 1.3<0", "10:0 13:-12");
-        refused(x, "wire 99.9<99", "10:0 13:-11");
-        refused(x, "wire 0.0<1", "10:0 2:0");
-        refused(x, "set 0+;wire 2.1<1", "10:1 3:1");
-        refused(x, "wire 1.0<0;wire 1.0<0", "10:1 4:0");
-        refused(x, "cut 4.0", "10:0 13:-11");
-        refused(x, "cut 1.3", "10:0 13:-12");
-        refused(x, "cut 3.2", "10:0 3:2");
-        refused(x, "cut 3.1", "10:0 5:1");
-        refused(x, "set 4+", "10:0 13:-11");
-        refused(x, "set 3+", "10:0 6:4");
-        refused(x, "set 0-", "10:0 7:0");
-        refused(x, "set 0+;set 0+", "10:1 7:0");
-        refused(x, "tick 0", "10:0 13:-12");
-        refused(x, "tick 00", "10:0 13:-12");
         x.loops(false);
         refused(x, "wire 1.0<3;wire 3.0<2;wire 2.0<1", "10:2 8:1 11:3");
         refused(x, "tick 1;tick 1;tick 1;tick 1;tick 1;tick 1;tick 1;wire 1.0<1", "10:7 8:1 11:1");
-        while (x.hang(0, 1) >= 0) {
-            due.isTrue("there are at most 16 lanterns", x.account(1) <= 16);
+        LanternLogic full = new LanternLogic();
+        for (int k = 0; k < 16; k++) {
+            full.hang(0, 1);
         }
-        refused(x, "hang 1*1", "10:0 1:16");
+        refused(full, "hang 1*1", "10:0 1:16");
     }
 
     private static void runAllOrNone() {
