@@ -1048,12 +1048,16 @@ public final class LanternLogic {
             return undoable;
         }
 
+        private Lanterns atTop() {
+            return top >= 0 && top <= UNDOABLE ? ring[top] : ring[0];
+        }
+
         void hold(Lanterns now) {
-            ring[top].copyFrom(now);
+            atTop().copyFrom(now);
         }
 
         void bringBackHeld(Lanterns now) {
-            now.copyFrom(ring[top]);
+            now.copyFrom(atTop());
         }
 
         void keepHeld() {
@@ -1064,7 +1068,7 @@ public final class LanternLogic {
         void bringBackLatest(Lanterns now) {
             top = top > 0 ? top - 1 : UNDOABLE;
             undoable--;
-            now.copyFrom(ring[top]);
+            now.copyFrom(atTop());
         }
 
         void forget() {
