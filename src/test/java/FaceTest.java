@@ -27,7 +27,7 @@ public final class FaceTest {
     }
 
     private static void constants() throws Exception {
-        due.part("constants");
+        due.part("the public face, constants");
         String[] names = {"NONE", "BAD", "FULL", "REFUSED", "NOTHING"};
         for (int i = 0; i < names.length; i++) {
             Field field = LanternLogic.class.getField(names[i]);
@@ -38,7 +38,7 @@ public final class FaceTest {
     }
 
     private static void members() {
-        due.part("members");
+        due.part("the public face, members");
         Set<String> face = new TreeSet<>(Set.of(FACE));
         Set<String> names = new TreeSet<>();
         Set<String> found = new TreeSet<>();
@@ -77,7 +77,7 @@ public final class FaceTest {
     }
 
     private static void classesInside() {
-        due.part("classes inside");
+        due.part("rules 1, 2 and 11, classes inside");
         Class<?>[] classes = LanternLogic.class.getDeclaredClasses();
         due.isTrue("there are at most twelve classes", classes.length < 12);
         for (Class<?> inside : classes) {
