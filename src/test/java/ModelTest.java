@@ -6,6 +6,8 @@ import java.util.Random;
 public final class ModelTest {
     private static final int OBJECTS = 400;
     private static final int CALLS = 512;
+    private static final int MOST_AT_ONCE = 3;
+    private static final int MOST_OF_A_TEXT = 71;
     private static final int[] FAR = {Integer.MIN_VALUE, -12, -1, 3, 7, 16, 17, 99, 100, 1000, Integer.MAX_VALUE};
 
     private static final Due due = new Due();
@@ -32,9 +34,13 @@ public final class ModelTest {
     }
 
     private void go(int seed) {
-        int made = seed % 3 == 1 ? layers() : seed % 3 == 2 ? rings() : 0;
-        while (made < CALLS && !isWrong) {
-            made += makeCall(CALLS - made);
+        if (seed % 3 == 1) {
+            layers();
+        } else if (seed % 3 == 2) {
+            rings();
+        }
+        while (calls.size() <= CALLS - MOST_AT_ONCE && !isWrong) {
+            makeCall(CALLS - calls.size());
         }
         if (isWrong) {
             due.fail("seed " + seed + ", latest calls: " + calls.subList(Math.max(0, calls.size() - 25), calls.size()));
@@ -42,53 +48,47 @@ public final class ModelTest {
     }
 
     /** A few switches and gates whose wires come from lanterns hung up before, so that tables are asked. */
-    private int layers() {
+    private void layers() {
         int switches = 1 + random.nextInt(5);
         int count = switches + 1 + random.nextInt(16 - switches);
-        int made = 0;
         for (int k = 0; k < count; k++) {
             int kind = k < switches ? 0 : 1 + random.nextInt(6);
-            made += hangOne(kind, 1 + random.nextInt(4));
+            hangOne(kind, 1 + random.nextInt(4));
             for (int place = 0; place < 3 && kind != 0; place++) {
-                made += wireOne(k, place, random.nextInt(k));
+                wireOne(k, place, random.nextInt(k));
             }
         }
-        return made;
     }
 
     /** Gates in rings, which go on for long. */
-    private int rings() {
+    private void rings() {
         int count = 4 + random.nextInt(13);
-        int made = 0;
         for (int k = 0; k < count; k++) {
             int[] kinds = {0, 1, 1, 4, 4, 6, 6, 6, 5, 3};
-            made += hangOne(kinds[random.nextInt(k == 0 ? 1 : kinds.length)], 1 + random.nextInt(4));
+            hangOne(kinds[random.nextInt(k == 0 ? 1 : kinds.length)], 1 + random.nextInt(4));
         }
         int start = 1;
         while (start < count) {
             int end = Math.min(count, start + 1 + random.nextInt(8));
             for (int k = start; k < end; k++) {
-                made += wireOne(k, 0, k + 1 < end ? k + 1 : start);
+                wireOne(k, 0, k + 1 < end ? k + 1 : start);
             }
             start = end;
         }
         for (int k = 1; k < count; k++) {
             if (random.nextInt(6) == 0) {
-                made += wireOne(k, 1, random.nextInt(count));
+                wireOne(k, 1, random.nextInt(count));
             }
         }
-        return made;
     }
 
-    private int hangOne(int kind, int wick) {
+    private void hangOne(int kind, int wick) {
         same("hang(" + kind + ", " + wick + ")", x.hang(kind, wick), plain.hang(kind, wick));
-        return 1;
     }
 
-    private int wireOne(int lantern, int place, int from) {
+    private void wireOne(int lantern, int place, int from) {
         same("wire(" + lantern + ", " + place + ", " + from + ")", x.wire(lantern, place, from),
             plain.wire(lantern, place, from));
-        return 1;
     }
 
     private void same(String call, double got, double want) {
@@ -112,21 +112,17 @@ public final class ModelTest {
         return random.nextInt(10) < switchShare ? 0 : upTo(6);
     }
 
-    private int makeCall(int left) {
+    private void makeCall(int left) {
         int choice = random.nextInt(100);
         if (choice < 55) {
             change(choice);
-            return 1;
-        }
-        if (choice < 90) {
+        } else if (choice < 90) {
             ask(choice);
-            return 1;
+        } else if (choice < 95 && left >= MOST_OF_A_TEXT) {
+            text();
+        } else {
+            tellOrTurnBack();
         }
-        if (choice < 95 && left > 70) {
-            return text();
-        }
-        tellOrTurnBack();
-        return 1;
     }
 
     private void change(int choice) {
@@ -208,7 +204,7 @@ public final class ModelTest {
         }
     }
 
-    private int text() {
+    private void text() {
         StringBuilder text = new StringBuilder(order());
         while (random.nextInt(4) != 0) {
             text.append(random.nextInt(60) == 0 ? "," : ";").append(order());
@@ -222,17 +218,14 @@ public final class ModelTest {
                 text.setLength(at);
             }
         }
-        int made = 1;
         for (int i = 0; i < text.length() && i < 62; i++) {
             same("append(" + (int) text.charAt(i) + ")", x.append(text.charAt(i)), plain.append(text.charAt(i)));
-            made++;
         }
         same("run() of '" + text + "'", x.run(), plain.run());
         for (int depth = 0; depth < 4; depth++) {
             same("reason(" + depth + ", true)", x.reason(depth, true), plain.reason(depth, true));
             same("reason(" + depth + ", false)", x.reason(depth, false), plain.reason(depth, false));
         }
-        return made + 8;
     }
 
     private String number() {

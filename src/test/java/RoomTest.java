@@ -12,12 +12,12 @@ public final class RoomTest {
 
     public static void main(String[] args) {
         due.part("room");
-        LanternLogic x = LongRuns.rings(17, 29);
         // The machine itself makes a few objects when lines are run for the first time.
         for (int i = 0; i < 3; i++) {
-            callAll(x);
+            callAll(LongRuns.rings(17, 29));
             used();
         }
+        LanternLogic x = LongRuns.rings(17, 29);
         long before = used();
         callAll(x);
         long ofCalls = used() - before;
